@@ -20,10 +20,13 @@ public final class PromisesTest {
         weave();
         weaveNumbersAndRoom();
         apart();
+        eachColourInBelts();
         giveAndOwner();
         credits();
         wishAndUnwish();
         chain();
+        chainByAnyRound();
+        chainAtAlone();
         chainNeedsBeads();
         chainTies();
         fair();
@@ -433,6 +436,24 @@ public final class PromisesTest {
         }
     }
 
+    /** The first colour and the last one count as any other does. */
+    private static void eachColourInBelts() {
+        for (int colour = 0; colour < 8; colour++) {
+            BeadParley x = new BeadParley();
+            drawPattern(x, 0, "" + colour);
+            Check.state("P14 none of " + colour, () -> x.weave(2, 0));
+            x.bring(2, colour, 1);
+            Check.due("P14 one of " + colour, 0, x.weave(2, 0));
+            Check.due("P14 woven of " + colour, 0, x.hand(2, colour));
+            Check.due("P5 woven of " + colour, 1, x.beads(colour));
+            fill(x, 2, colour, 100000);
+            Check.state("P15 a full hand of " + colour, () -> x.apart(0));
+            x.give(0, 1);
+            Check.due("P15 of " + colour, 1, x.apart(0));
+            Check.due("P15 bead of " + colour, 1, x.hand(1, colour));
+        }
+    }
+
     private static void giveAndOwner() {
         BeadParley x = new BeadParley();
         x.pattern(0);
@@ -548,6 +569,41 @@ public final class PromisesTest {
         chainIs("all seven", y, round);
         y.unwish(5);
         chainIs("one missing", y);
+    }
+
+    /** Each order of seven people as a round: one of the orders tried has to be it. */
+    private static void chainByAnyRound() {
+        int[] round = {0, 1, 2, 3, 4, 5, 6};
+        for (int turn = 0; turn < 720; turn++) {
+            int left = turn;
+            for (int place = 1; place < 7; place++) {
+                int from = place + left % (7 - place);
+                left /= 7 - place;
+                int person = round[from];
+                round[from] = round[place];
+                round[place] = person;
+            }
+            BeadParley x = new BeadParley();
+            for (int place = 0; place < 7; place++) {
+                wishes(x, round[place], place, (place + 1) % 7);
+            }
+            Check.due("P22 round " + turn, 7, x.chainByOrders());
+            Check.due("P21 round " + turn, 7, x.chain());
+            Check.due("P23 round " + turn, round[6], x.chainAt(6));
+        }
+    }
+
+    /** Each call finds the chain anew, whatever was asked before. */
+    private static void chainAtAlone() {
+        BeadParley x = new BeadParley();
+        wishes(x, 2, 1, 2);
+        wishes(x, 5, 2, 1);
+        Check.due("P23 asked first", 5, x.chainAt(1));
+        x.lay(2, 1, 1);
+        Check.index("P23 no chain any more", () -> x.chainAt(0));
+        x.lay(2, 1, -1);
+        Check.due("P24 asked before P21", 2, x.fair());
+        Check.index("P23 after the fair", () -> x.chainAt(0));
     }
 
     private static void chainNeedsBeads() {
