@@ -571,7 +571,7 @@ public final class PromisesTest {
         chainIs("one missing", y);
     }
 
-    /** Each order of seven people as a round: one of the orders tried has to be it. */
+    /** Each round of two to seven people that begins with 0; the others are ready, but nobody wants their colour. */
     private static void chainByAnyRound() {
         int[] round = {0, 1, 2, 3, 4, 5, 6};
         for (int turn = 0; turn < 720; turn++) {
@@ -583,13 +583,15 @@ public final class PromisesTest {
                 round[from] = round[place];
                 round[place] = person;
             }
-            BeadParley x = new BeadParley();
-            for (int place = 0; place < 7; place++) {
-                wishes(x, round[place], place, (place + 1) % 7);
+            for (int length = 2; length <= 7; length++) {
+                BeadParley x = new BeadParley();
+                for (int place = 0; place < 7; place++) {
+                    wishes(x, round[place], place < length ? place : 7, place < length ? (place + 1) % length : 0);
+                }
+                Check.due("P22 round " + turn, length, x.chainByOrders());
+                Check.due("P21 round " + turn, length, x.chain());
+                Check.due("P23 round " + turn, round[length - 1], x.chainAt(length - 1));
             }
-            Check.due("P22 round " + turn, 7, x.chainByOrders());
-            Check.due("P21 round " + turn, 7, x.chain());
-            Check.due("P23 round " + turn, round[6], x.chainAt(6));
         }
     }
 
