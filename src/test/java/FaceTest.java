@@ -66,7 +66,9 @@ public final class FaceTest {
         Check.due("the methods", new TreeSet<>(FACE), found);
         for (Class<?> inside : BeadParley.class.getDeclaredClasses()) {
             for (Method method : inside.getDeclaredMethods()) {
-                privateNames.add(method.getName());
+                if (Modifier.isPrivate(method.getModifiers())) {
+                    privateNames.add(method.getName());
+                }
             }
         }
         privateNames.retainAll(publicNames);

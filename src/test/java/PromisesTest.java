@@ -41,32 +41,6 @@ public final class PromisesTest {
         Check.report("PromisesTest");
     }
 
-    /** Draws a draft by rows of digits. */
-    private static void draw(BeadParley x, String... rows) {
-        x.draft(rows[0].length(), rows.length);
-        for (int row = 0; row < rows.length; row++) {
-            for (int column = 0; column < rows[row].length(); column++) {
-                x.bead(column, row, rows[row].charAt(column) - '0');
-            }
-        }
-    }
-
-    private static int drawPattern(BeadParley x, int author, String... rows) {
-        draw(x, rows);
-        return x.pattern(author);
-    }
-
-    private static int drawSign(BeadParley x, int worth, String... rows) {
-        draw(x, rows);
-        return x.sign(worth);
-    }
-
-    private static void fill(BeadParley x, int person, int colour, int beads) {
-        for (int left = beads; left > 0; left -= 1000) {
-            x.bring(person, colour, Math.min(left, 1000));
-        }
-    }
-
     /** All that can be asked, in one text. */
     private static String told(BeadParley x) {
         StringBuilder text = new StringBuilder();
@@ -140,7 +114,7 @@ public final class PromisesTest {
         }
         Check.index("P2 person 7", () -> x.bring(7, 0, 1));
         Check.index("P2 colour 8", () -> x.bring(0, 8, 1));
-        fill(x, 1, 1, 99999);
+        Make.fill(x, 1, 1, 99999);
         Check.due("P2 just 100000", 100000, x.bring(1, 1, 1));
         Check.state("P2 one too many", () -> x.bring(1, 1, 1));
         Check.argument("P2 beads before the hand", () -> x.bring(1, 1, 1001));
@@ -175,7 +149,7 @@ public final class PromisesTest {
         Check.index("P3 person -1", () -> x.lay(-1, 0, 0));
         Check.index("P3 colour 8", () -> x.lay(0, 8, 0));
         Check.index("P3 colour -1", () -> x.lay(0, -1, 0));
-        fill(x, 1, 5, 99999);
+        Make.fill(x, 1, 5, 99999);
         x.lay(3, 5, 2);
         Check.state("P3 hand over 100000", () -> x.lay(1, 5, -2));
         Check.due("P3 hand of just 100000", 1, x.lay(1, 5, -1));
@@ -185,7 +159,7 @@ public final class PromisesTest {
 
     private static void handBeadsAndBrought() {
         BeadParley x = new BeadParley();
-        int pattern = drawPattern(x, 0, "1123", "4211");
+        int pattern = Make.pattern(x, 0, "1123", "4211");
         x.bring(0, 1, 9);
         x.bring(0, 2, 3);
         x.bring(0, 3, 1);
@@ -289,7 +263,7 @@ public final class PromisesTest {
 
     private static int symmetriesOf(String... rows) {
         BeadParley x = new BeadParley();
-        return x.symmetries(drawPattern(x, 0, rows));
+        return x.symmetries(Make.pattern(x, 0, rows));
     }
 
     private static void symmetries() {
@@ -316,14 +290,14 @@ public final class PromisesTest {
 
     private static void origin() {
         BeadParley x = new BeadParley();
-        drawPattern(x, 0, "123", "000");
-        drawPattern(x, 0, "321", "001");
-        drawPattern(x, 0, "321", "000");
-        drawPattern(x, 0, "01", "02", "03");
-        drawPattern(x, 0, "123", "000");
-        drawPattern(x, 0, "100", "123");
-        drawPattern(x, 0, "1230", "0000");
-        drawPattern(x, 0, "123000");
+        Make.pattern(x, 0, "123", "000");
+        Make.pattern(x, 0, "321", "001");
+        Make.pattern(x, 0, "321", "000");
+        Make.pattern(x, 0, "01", "02", "03");
+        Make.pattern(x, 0, "123", "000");
+        Make.pattern(x, 0, "100", "123");
+        Make.pattern(x, 0, "1230", "0000");
+        Make.pattern(x, 0, "123000");
         int[] due = {0, 1, 0, 0, 0, 1, 6, 7};
         for (int number = 0; number < due.length; number++) {
             Check.due("P12 of " + number, due[number], x.origin(number));
@@ -335,29 +309,29 @@ public final class PromisesTest {
 
     private static void originTakesAllEightImages() {
         BeadParley x = new BeadParley();
-        drawPattern(x, 0, "123", "456");
-        drawPattern(x, 0, "41", "52", "63");
-        drawPattern(x, 0, "654", "321");
-        drawPattern(x, 0, "36", "25", "14");
-        drawPattern(x, 0, "321", "654");
-        drawPattern(x, 0, "63", "52", "41");
-        drawPattern(x, 0, "456", "123");
-        drawPattern(x, 0, "14", "25", "36");
+        Make.pattern(x, 0, "123", "456");
+        Make.pattern(x, 0, "41", "52", "63");
+        Make.pattern(x, 0, "654", "321");
+        Make.pattern(x, 0, "36", "25", "14");
+        Make.pattern(x, 0, "321", "654");
+        Make.pattern(x, 0, "63", "52", "41");
+        Make.pattern(x, 0, "456", "123");
+        Make.pattern(x, 0, "14", "25", "36");
         for (int number = 0; number < 8; number++) {
             Check.due("P12 image " + number, 0, x.origin(number));
         }
-        drawPattern(x, 0, "142", "536");
+        Make.pattern(x, 0, "142", "536");
         Check.due("P12 as many beads are not enough", 8, x.origin(8));
     }
 
     private static void needs() {
         BeadParley x = new BeadParley();
-        drawPattern(x, 0, "00112377", "77777777");
+        Make.pattern(x, 0, "00112377", "77777777");
         int[] due = {2, 2, 1, 1, 0, 0, 0, 10};
         for (int colour = 0; colour < 8; colour++) {
             Check.due("P13 colour " + colour, due[colour], x.needs(0, colour));
         }
-        drawPattern(x, 0, "0");
+        Make.pattern(x, 0, "0");
         Check.due("P13 a small one after a large draft", 1, x.needs(1, 0));
         Check.due("P13 nothing else in it", 0, x.needs(1, 7));
         for (int outside : OUTSIDE_INTS) {
@@ -370,7 +344,7 @@ public final class PromisesTest {
 
     private static void weave() {
         BeadParley x = new BeadParley();
-        drawPattern(x, 4, "1122", "1122");
+        Make.pattern(x, 4, "1122", "1122");
         x.bring(3, 1, 8);
         x.bring(3, 2, 7);
         Check.due("P14 first", 0, x.weave(3, 0));
@@ -414,13 +388,13 @@ public final class PromisesTest {
 
     private static void apart() {
         BeadParley x = new BeadParley();
-        drawPattern(x, 0, "012", "222");
+        Make.pattern(x, 0, "012", "222");
         x.bring(0, 0, 1);
         x.bring(0, 1, 1);
         x.bring(0, 2, 4);
         x.weave(0, 0);
         x.give(0, 5);
-        fill(x, 5, 2, 99997);
+        Make.fill(x, 5, 2, 99997);
         Check.state("P15 one too many of some colour", () -> x.apart(0));
         Check.due("P15 what threw left the hand", 0, x.hand(5, 0));
         Check.due("P15 what threw left the belt", 5, x.owner(0));
@@ -440,13 +414,13 @@ public final class PromisesTest {
     private static void eachColourInBelts() {
         for (int colour = 0; colour < 8; colour++) {
             BeadParley x = new BeadParley();
-            drawPattern(x, 0, "" + colour);
+            Make.pattern(x, 0, "" + colour);
             Check.state("P14 none of " + colour, () -> x.weave(2, 0));
             x.bring(2, colour, 1);
             Check.due("P14 one of " + colour, 0, x.weave(2, 0));
             Check.due("P14 woven of " + colour, 0, x.hand(2, colour));
             Check.due("P5 woven of " + colour, 1, x.beads(colour));
-            fill(x, 2, colour, 100000);
+            Make.fill(x, 2, colour, 100000);
             Check.state("P15 a full hand of " + colour, () -> x.apart(0));
             x.give(0, 1);
             Check.due("P15 of " + colour, 1, x.apart(0));
@@ -482,9 +456,9 @@ public final class PromisesTest {
 
     private static void credits() {
         BeadParley x = new BeadParley();
-        drawPattern(x, 3, "10");
-        drawPattern(x, 5, "0", "1");
-        drawPattern(x, 6, "11");
+        Make.pattern(x, 3, "10");
+        Make.pattern(x, 5, "0", "1");
+        Make.pattern(x, 6, "11");
         x.bring(0, 0, 9);
         x.bring(0, 1, 9);
         x.weave(0, 0);
@@ -530,12 +504,6 @@ public final class PromisesTest {
         Check.due("P19 anew", false, x.wish(0, 1, 2));
     }
 
-    /** Gives each one a bead of the colour and the wish. */
-    private static void wishes(BeadParley x, int person, int gives, int wants) {
-        x.bring(person, gives, 1);
-        x.wish(person, gives, wants);
-    }
-
     private static void chainIs(String what, BeadParley x, int... people) {
         Check.due("P21 " + what, people.length, x.chain());
         Check.due("P22 " + what, people.length, x.chainByOrders());
@@ -550,21 +518,21 @@ public final class PromisesTest {
     private static void chain() {
         BeadParley x = new BeadParley();
         chainIs("none", x);
-        wishes(x, 4, 1, 2);
+        Make.wish(x, 4, 1, 2);
         chainIs("one wish", x);
-        wishes(x, 2, 2, 3);
+        Make.wish(x, 2, 2, 3);
         chainIs("not closed", x);
-        wishes(x, 6, 3, 1);
+        Make.wish(x, 6, 3, 1);
         chainIs("three", x, 2, 6, 4);
-        wishes(x, 0, 5, 6);
-        wishes(x, 1, 6, 5);
+        Make.wish(x, 0, 5, 6);
+        Make.wish(x, 1, 6, 5);
         chainIs("the longest one", x, 2, 6, 4);
         x.unwish(6);
         chainIs("the other one", x, 0, 1);
         BeadParley y = new BeadParley();
         int[] round = {0, 3, 6, 2, 5, 1, 4};
         for (int place = 0; place < 7; place++) {
-            wishes(y, round[place], place, (place + 1) % 7);
+            Make.wish(y, round[place], place, (place + 1) % 7);
         }
         chainIs("all seven", y, round);
         y.unwish(5);
@@ -586,7 +554,7 @@ public final class PromisesTest {
             for (int length = 2; length <= 7; length++) {
                 BeadParley x = new BeadParley();
                 for (int place = 0; place < 7; place++) {
-                    wishes(x, round[place], place < length ? place : 7, place < length ? (place + 1) % length : 0);
+                    Make.wish(x, round[place], place < length ? place : 7, place < length ? (place + 1) % length : 0);
                 }
                 Check.due("P22 round " + turn, length, x.chainByOrders());
                 Check.due("P21 round " + turn, length, x.chain());
@@ -598,8 +566,8 @@ public final class PromisesTest {
     /** Each call finds the chain anew, whatever was asked before. */
     private static void chainAtAlone() {
         BeadParley x = new BeadParley();
-        wishes(x, 2, 1, 2);
-        wishes(x, 5, 2, 1);
+        Make.wish(x, 2, 1, 2);
+        Make.wish(x, 5, 2, 1);
         Check.due("P23 asked first", 5, x.chainAt(1));
         x.lay(2, 1, 1);
         Check.index("P23 no chain any more", () -> x.chainAt(0));
@@ -625,26 +593,26 @@ public final class PromisesTest {
 
     private static void chainTies() {
         BeadParley x = new BeadParley();
-        wishes(x, 5, 0, 1);
-        wishes(x, 6, 1, 0);
-        wishes(x, 3, 2, 3);
-        wishes(x, 4, 3, 2);
+        Make.wish(x, 5, 0, 1);
+        Make.wish(x, 6, 1, 0);
+        Make.wish(x, 3, 2, 3);
+        Make.wish(x, 4, 3, 2);
         chainIs("the lower first one", x, 3, 4);
-        wishes(x, 2, 3, 2);
+        Make.wish(x, 2, 3, 2);
         chainIs("a lower one still", x, 2, 3);
         BeadParley y = new BeadParley();
         for (int person = 0; person < 7; person++) {
-            wishes(y, person, person < 4 ? 0 : 1, person < 4 ? 1 : 0);
+            Make.wish(y, person, person < 4 ? 0 : 1, person < 4 ? 1 : 0);
         }
         chainIs("by turns", y, 0, 4, 1, 5, 2, 6);
         y.unwish(0);
         chainIs("by turns without the first", y, 1, 4, 2, 5, 3, 6);
         BeadParley z = new BeadParley();
-        wishes(z, 0, 0, 1);
-        wishes(z, 6, 1, 2);
-        wishes(z, 5, 2, 0);
-        wishes(z, 1, 1, 0);
-        wishes(z, 2, 2, 0);
+        Make.wish(z, 0, 0, 1);
+        Make.wish(z, 6, 1, 2);
+        Make.wish(z, 5, 2, 0);
+        Make.wish(z, 1, 1, 0);
+        Make.wish(z, 2, 2, 0);
         chainIs("a lower second one makes a shorter chain", z, 0, 6, 2);
     }
 
@@ -673,10 +641,10 @@ public final class PromisesTest {
         x.bring(2, 6, 1);
         Check.due("P24 wishes stay", 3, x.fair());
         BeadParley y = new BeadParley();
-        wishes(y, 0, 0, 1);
-        wishes(y, 1, 1, 0);
-        wishes(y, 5, 2, 3);
-        wishes(y, 6, 3, 2);
+        Make.wish(y, 0, 0, 1);
+        Make.wish(y, 1, 1, 0);
+        Make.wish(y, 5, 2, 3);
+        Make.wish(y, 6, 3, 2);
         Check.due("P24 only the best chain", 2, y.fair());
         Check.due("P24 others wait", 1, y.hand(5, 2));
         Check.due("P24 then they barter", 2, y.fair());
@@ -685,7 +653,7 @@ public final class PromisesTest {
 
     private static void fairOverTheLimit() {
         BeadParley x = new BeadParley();
-        fill(x, 0, 1, 100000);
+        Make.fill(x, 0, 1, 100000);
         x.bring(0, 0, 9);
         x.bring(1, 1, 9);
         x.wish(0, 0, 1);
@@ -708,7 +676,7 @@ public final class PromisesTest {
 
     private static void sign() {
         BeadParley x = new BeadParley();
-        draw(x, "12", "34");
+        Make.draw(x, "12", "34");
         Check.due("P25 first", 0, x.sign(1));
         Check.due("P25 the draft stays", 4, x.bead(1, 1, 5));
         x.pattern(0);
@@ -738,14 +706,14 @@ public final class PromisesTest {
 
     private static void stands() {
         BeadParley x = new BeadParley();
-        drawPattern(x, 0, "1121", "1111", "2111");
-        drawPattern(x, 0, "11");
-        int one = drawSign(x, 1, "1");
-        int square = drawSign(x, 1, "11", "11");
-        int lying = drawSign(x, 1, "111");
-        int standing = drawSign(x, 1, "1", "1", "1");
-        int corner = drawSign(x, 1, "12", "11");
-        int none = drawSign(x, 1, "3");
+        Make.pattern(x, 0, "1121", "1111", "2111");
+        Make.pattern(x, 0, "11");
+        int one = Make.sign(x, 1, "1");
+        int square = Make.sign(x, 1, "11", "11");
+        int lying = Make.sign(x, 1, "111");
+        int standing = Make.sign(x, 1, "1", "1", "1");
+        int corner = Make.sign(x, 1, "12", "11");
+        int none = Make.sign(x, 1, "3");
         Check.due("P26 one cell", 10, x.stands(one, 0));
         Check.due("P26 overlapping", 3, x.stands(square, 0));
         Check.due("P26 lying", 3, x.stands(lying, 0));
@@ -761,22 +729,22 @@ public final class PromisesTest {
         }
         Check.index("P26 sign 6", () -> x.stands(6, 0));
         Check.index("P26 pattern 2", () -> x.stands(0, 2));
-        drawPattern(x, 0, "333", "333", "333");
-        drawSign(x, 1, "333", "333", "333");
+        Make.pattern(x, 0, "333", "333", "333");
+        Make.sign(x, 1, "333", "333", "333");
         Check.due("P26 the whole pattern", 1, x.stands(6, 2));
     }
 
     private static void story() {
         BeadParley x = new BeadParley();
-        drawPattern(x, 0, "0101", "1010");
+        Make.pattern(x, 0, "0101", "1010");
         Check.due("P27 no signs", 0, x.story(0));
-        drawSign(x, 2, "1");
+        Make.sign(x, 2, "1");
         Check.due("P27 one sign", 8, x.story(0));
-        drawSign(x, 30, "01");
+        Make.sign(x, 30, "01");
         Check.due("P27 two signs", 8 + 90, x.story(0));
-        drawSign(x, 30, "01");
+        Make.sign(x, 30, "01");
         Check.due("P27 alike signs count each", 8 + 180, x.story(0));
-        drawPattern(x, 0, "2");
+        Make.pattern(x, 0, "2");
         Check.due("P27 none stands", 0, x.story(1));
         for (int outside : new int[] {-1, 2, 12, Integer.MIN_VALUE, Integer.MAX_VALUE}) {
             Check.index("P27 pattern", () -> x.story(outside));
@@ -785,18 +753,18 @@ public final class PromisesTest {
 
     private static void hear() {
         BeadParley x = new BeadParley();
-        drawPattern(x, 0, "0000");
-        drawPattern(x, 0, "0");
+        Make.pattern(x, 0, "0000");
+        Make.pattern(x, 0, "0");
         x.bring(0, 0, 100);
         x.weave(0, 0);
         x.weave(0, 1);
         Check.due("P28 no signs", 0L, x.hear(0, 2));
-        drawSign(x, 10, "0");
+        Make.sign(x, 10, "0");
         Check.due("P28 one", 40L, x.hear(0, 2));
         Check.due("P28 it grows", 80L, x.hear(0, 2));
         Check.due("P28 another belt", 90L, x.hear(1, 2));
         Check.due("P28 somebody else", 10L, x.hear(1, 6));
-        drawSign(x, 1, "00");
+        Make.sign(x, 1, "00");
         Check.due("P28 a new sign counts from then on", 133L, x.hear(0, 2));
         for (int outside : new int[] {-1, 2, 20, Integer.MIN_VALUE, Integer.MAX_VALUE}) {
             Check.index("P28 belt", () -> x.hear(outside, 0));
@@ -840,13 +808,13 @@ public final class PromisesTest {
 
     private static void throwingChangesNothing() {
         BeadParley x = new BeadParley();
-        drawPattern(x, 1, "12", "21");
-        drawSign(x, 7, "1");
-        draw(x, "1234");
+        Make.pattern(x, 1, "12", "21");
+        Make.sign(x, 7, "1");
+        Make.draw(x, "1234");
         x.bring(0, 1, 5);
         x.bring(0, 2, 5);
-        wishes(x, 3, 1, 2);
-        wishes(x, 4, 2, 1);
+        Make.wish(x, 3, 1, 2);
+        Make.wish(x, 4, 2, 1);
         x.lay(0, 1, 1);
         x.weave(0, 0);
         x.hear(0, 5);
@@ -882,9 +850,9 @@ public final class PromisesTest {
     private static void manyCalls() {
         BeadParley x = new BeadParley();
         for (int person = 0; person < 7; person++) {
-            wishes(x, person, person, (person + 1) % 7);
+            Make.wish(x, person, person, (person + 1) % 7);
         }
-        for (int call = 0; call < 600; call++) {
+        for (int call = 14; call < 512; call++) {
             Check.due("many calls", 7, x.chainByOrders());
         }
     }
