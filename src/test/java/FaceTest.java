@@ -75,9 +75,21 @@ public final class FaceTest {
         Check.due("private methods with a public name", new TreeSet<String>(), privateNames);
     }
 
+    /** What a class takes from another one would be of the face, too. */
+    private static void checkNothingIsInherited() {
+        Check.due("the class above", Object.class, BeadParley.class.getSuperclass());
+        Check.due("interfaces", 0, BeadParley.class.getInterfaces().length);
+        Check.due("type parameters", 0, BeadParley.class.getTypeParameters().length);
+        Check.due("the package", "", BeadParley.class.getPackageName());
+        Check.due("public methods", FACE.size(), Arrays.stream(BeadParley.class.getMethods())
+                .filter(method -> method.getDeclaringClass() != Object.class).toList().size());
+        Check.due("public classes", 0, BeadParley.class.getClasses().length);
+    }
+
     public static void main(String[] args) throws ReflectiveOperationException {
         Check.due("the class", Modifier.PUBLIC | Modifier.FINAL, BeadParley.class.getModifiers());
         checkMethods();
+        checkNothingIsInherited();
         Constructor<?>[] constructors = BeadParley.class.getDeclaredConstructors();
         Check.due("constructors", 1, constructors.length);
         Check.due("the constructor", "public BeadParley()", constructors[0].toString());
